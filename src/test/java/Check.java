@@ -1,0 +1,91 @@
+import java.nio.charset.StandardCharsets;
+
+/** What all tests share: answers that are due, exceptions that are due, and texts for the tape. */
+final class Check {
+    interface Call {
+        long run();
+    }
+
+    private static int wrong = 0;
+
+    private Check() {
+    }
+
+    static void due(String call, long got, long want) {
+        if (got != want) {
+            wrong++;
+            System.out.println(call + " answered " + got + ", due is " + want);
+        }
+    }
+
+    static void due(String call, boolean got, boolean want) {
+        due(call, got ? 1 : 0, want ? 1 : 0);
+    }
+
+    static void due(String call, String got, String want) {
+        if (!got.equals(want)) {
+            wrong++;
+            System.out.println(call + " answered " + got + ", due is " + want);
+        }
+    }
+
+    /** The very class is due: an exception of the machine's own is a class below it. */
+    static void dueThrow(String call, Class<? extends RuntimeException> kind, Call body) {
+        String got;
+        try {
+            got = String.valueOf(body.run());
+        } catch (RuntimeException e) {
+            got = e.getClass().getName();
+        }
+        due(call, got, kind.getName());
+    }
+
+    /** Puts a text on an empty tape; its characters are bytes. */
+    static void tape(PostHouse house, String text) {
+        byte[] bytes = text.getBytes(StandardCharsets.ISO_8859_1);
+        house.end(0);
+        for (int at = 0; at < bytes.length; at += 20) {
+            house.feed(word(bytes, at), word(bytes, at + 4), word(bytes, at + 8),
+                    word(bytes, at + 12), word(bytes, at + 16));
+        }
+        due("end(" + bytes.length + ")", house.end(bytes.length), true);
+    }
+
+    static int word(byte[] bytes, int from) {
+        int word = 0;
+        for (int i = from; i < from + 4; i++) {
+            word = word << 8 | (i < bytes.length ? bytes[i] & 255 : 0);
+        }
+        return word;
+    }
+
+    static int letter(PostHouse house, String text) {
+        tape(house, text);
+        return house.letter();
+    }
+
+    static int rules(PostHouse house, String text) {
+        tape(house, text);
+        return house.rules();
+    }
+
+    static void wrongLetter(PostHouse house, String text, int fault) {
+        tape(house, text);
+        dueThrow("letter \"" + text + "\"", IllegalArgumentException.class, house::letter);
+        due("fault of letter \"" + text + "\"", house.fault(), fault);
+        due("tape behind a wrong letter", house.end(1), false);
+    }
+
+    static void wrongRules(PostHouse house, String text, int fault) {
+        tape(house, text);
+        dueThrow("rules \"" + text + "\"", IllegalArgumentException.class, house::rules);
+        due("fault of rules \"" + text + "\"", house.fault(), fault);
+        due("tape behind wrong rules", house.end(1), false);
+    }
+
+    static void finish() {
+        if (wrong > 0) {
+            System.exit(1);
+        }
+    }
+}
