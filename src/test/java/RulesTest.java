@@ -93,6 +93,8 @@ public final class RulesTest {
         Check.wrongRules(house, "post -1", 5);
         Check.wrongRules(house, "posts 1", 0);
         Check.wrongRules(house, "pos 1", 0);
+        Check.wrongRules(house, "most 1", 0);
+        Check.wrongRules(house, "posy 1", 0);
         Check.wrongRules(house, "Post 1", 0);
         Check.wrongRules(house, "pOst 1", 0);
         Check.wrongRules(house, " sum 1", 1);
