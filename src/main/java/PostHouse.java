@@ -918,7 +918,7 @@ public final class PostHouse {
 
     /** A letter as it was read; it is kept as long as it is in doubt, and behind that, to be asked for. */
     private static final class Letter {
-        // Codes, not things: what is known by a code may be another thing on the day it is settled.
+        // Codes, not things: a code of nothing today may be a thing's on the day it is settled.
         final int[] codes = new int[MOST_LINES];
         final int[] pieces = new int[MOST_LINES];
         int lines;
