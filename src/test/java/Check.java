@@ -7,14 +7,30 @@ final class Check {
     }
 
     private static int wrong = 0;
+    private static String sentence = "";
 
     private Check() {
     }
 
+    /** A sentence of the document, in its own words, and the test that it has for itself. */
+    static void sentence(String words, Runnable test) {
+        sentence = "<" + words + ">: ";
+        try {
+            test.run();
+        } catch (RuntimeException e) {
+            tellWrong("the test ended by " + e);
+        }
+        sentence = "";
+    }
+
+    private static void tellWrong(String what) {
+        wrong++;
+        System.out.println(sentence + what);
+    }
+
     static void due(String call, long got, long want) {
         if (got != want) {
-            wrong++;
-            System.out.println(call + " answered " + got + ", due is " + want);
+            tellWrong(call + " answered " + got + ", due is " + want);
         }
     }
 
@@ -24,8 +40,7 @@ final class Check {
 
     static void due(String call, String got, String want) {
         if (!got.equals(want)) {
-            wrong++;
-            System.out.println(call + " answered " + got + ", due is " + want);
+            tellWrong(call + " answered " + got + ", due is " + want);
         }
     }
 
