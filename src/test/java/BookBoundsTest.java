@@ -268,10 +268,7 @@ public final class BookBoundsTest {
         for (int what = 0; what <= 9; what++) {
             Check.due("count(" + what + ")", house.count(what), 0);
         }
-        int[] rules = {10, 50, 10000, 14};
-        for (int what = 0; what < rules.length; what++) {
-            Check.due("says(" + what + ")", house.says(what), rules[what]);
-        }
+        Check.dueRules(house, 10, 50, 10000, 14);
         Check.due("fault()", house.fault(), -1);
         Check.due("end(1)", house.end(1), false);
         Check.due("walk()", house.walk(), 0);

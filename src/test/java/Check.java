@@ -55,6 +55,47 @@ final class Check {
         due(call, got, kind.getName());
     }
 
+    /** All that may be asked of an order, from what 0 on. */
+    static void dueOrder(PostHouse house, int order, int... due) {
+        for (int what = 0; what < due.length; what++) {
+            due("order(" + order + ", " + what + ")", house.order(order, what), due[what]);
+        }
+    }
+
+    static void dueRules(PostHouse house, int... due) {
+        for (int what = 0; what < due.length; what++) {
+            due("says(" + what + ")", house.says(what), due[what]);
+        }
+    }
+
+    static void dueDoubt(PostHouse house, int doubt, int... due) {
+        for (int what = 0; what < due.length; what++) {
+            due("doubt(" + doubt + ", " + what + ")", house.doubt(doubt, what), due[what]);
+        }
+    }
+
+    static void dueSending(PostHouse house, int sending, int... due) {
+        for (int what = 0; what < due.length; what++) {
+            due("sending(" + sending + ", " + what + ")", house.sending(sending, what), due[what]);
+        }
+    }
+
+    static void dueWant(PostHouse house, int order, int want, int... due) {
+        dueOfWant(house, order, want, 0, due);
+    }
+
+    /** What became of a want: from SENT, what 3, on. */
+    static void dueCourse(PostHouse house, int order, int want, int... due) {
+        dueOfWant(house, order, want, 3, due);
+    }
+
+    private static void dueOfWant(PostHouse house, int order, int want, int first, int[] due) {
+        for (int i = 0; i < due.length; i++) {
+            int what = first + i;
+            due("want(" + order + ", " + want + ", " + what + ")", house.want(order, want, what), due[i]);
+        }
+    }
+
     /** Puts a text on an empty tape; its characters are bytes. */
     static void tape(PostHouse house, String text) {
         byte[] bytes = text.getBytes(StandardCharsets.ISO_8859_1);

@@ -72,19 +72,6 @@ public final class DayBoundsTest {
         Check.sentence("there is no such THING, ORDER, WANT, DOUBT, SENDING.", DayBoundsTest::noSuchNumbers);
     }
 
-    private static void dueWant(PostHouse house, int order, int want, int... due) {
-        for (int i = 0; i < due.length; i++) {
-            int what = i + 3;
-            Check.due("want(" + order + ", " + want + ", " + what + ")", house.want(order, want, what), due[i]);
-        }
-    }
-
-    private static void dueSending(PostHouse house, int sending, int... due) {
-        for (int what = 0; what < due.length; what++) {
-            Check.due("sending(" + sending + ", " + what + ")", house.sending(sending, what), due[what]);
-        }
-    }
-
     private static void lastDay() {
         PostHouse house = Made.house(10);
         house.coming(0, 999, 5);
@@ -92,7 +79,7 @@ public final class DayBoundsTest {
         Made.goToDay(house, 998);
         Check.letter(house, "1000 x 2 sum 20");
         Check.due("to the last", house.days(1), 999);
-        dueWant(house, 0, 0, 2, 0, 0, 0, 999, -1);
+        Check.dueCourse(house, 0, 0, 2, 0, 0, 0, 999, -1);
         Check.due("stock(0)", house.stock(0), 3);
         Check.due("no further", house.days(1), 999);
         Check.due("however many", house.days(100), 999);
@@ -100,8 +87,8 @@ public final class DayBoundsTest {
         Check.due("what came comes no second time", house.stock(0), 3);
         Check.letter(house, "1000 x 1 sum 10");
         Check.due("a DAY on it", house.days(1), 999);
-        dueWant(house, 1, 0, 1, 0, 0, 0, 999, -1);
-        dueSending(house, 1, 1, 999, 1, 1);
+        Check.dueCourse(house, 1, 0, 1, 0, 0, 0, 999, -1);
+        Check.dueSending(house, 1, 1, 999, 1, 1);
     }
 
     private static void comesOnItsDay() {
@@ -134,7 +121,7 @@ public final class DayBoundsTest {
         int[] due = {3, 1, 1};
         for (int i = 0; i < due.length; i++) {
             Check.due("SENT of " + i, house.want(i, 0, 3), due[i]);
-            dueSending(house, i, i, 1, due[i], 1);
+            Check.dueSending(house, i, i, 1, due[i], 1);
         }
         Check.due("stock(0)", house.stock(0), 0);
     }
@@ -145,9 +132,9 @@ public final class DayBoundsTest {
         Check.letter(house, "1000 x 2,1001 x 2,1000 x 2 sum 60");
         house.coming(0, 1, 5);
         house.days(1);
-        dueWant(house, 0, 0, 2, 0, 0, 0, 1, -1);
-        dueWant(house, 0, 1, 0, 2, 0, 0, 1, 0);
-        dueWant(house, 0, 2, 1, 0, 1, 0, 1, -1);
+        Check.dueCourse(house, 0, 0, 2, 0, 0, 0, 1, -1);
+        Check.dueCourse(house, 0, 1, 0, 2, 0, 0, 1, 0);
+        Check.dueCourse(house, 0, 2, 1, 0, 1, 0, 1, -1);
     }
 
     private static void left() {
@@ -163,8 +150,8 @@ public final class DayBoundsTest {
         Check.rules(house, "behind 1;place 1000 by 1001");
         house.coming(1, 2, 3);
         house.days(1);
-        dueWant(house, 0, 0, 8, 1, 0, 4, 2, 1);
-        dueWant(house, 0, 1, 2, 0, 3, 0, 2, -1);
+        Check.dueCourse(house, 0, 0, 8, 1, 0, 4, 2, 1);
+        Check.dueCourse(house, 0, 1, 2, 0, 3, 0, 2, -1);
         Check.due("less PLACED and CANCELLED", house.order(0, LEFT), 0);
         house.days(50);
         Check.due("never below 0", house.order(0, LEFT), 0);
@@ -176,10 +163,10 @@ public final class DayBoundsTest {
             Check.letter(house, "1000 x 3 sum 30");
             house.coming(0, 2, there);
             house.days(1);
-            dueWant(house, 0, 0, 0, 0, 0, 0, -1, -1);
+            Check.dueCourse(house, 0, 0, 0, 0, 0, 0, -1, -1);
             house.days(1);
             int sent = Math.min(there, 3);
-            dueWant(house, 0, 0, sent, 0, 0, 0, 2, -1);
+            Check.dueCourse(house, 0, 0, sent, 0, 0, 0, 2, -1);
             Check.due("STOCK of " + there, house.stock(0), there - sent);
             Check.due("LEFT of " + there, house.order(0, LEFT), 3 - sent);
         }
@@ -192,12 +179,12 @@ public final class DayBoundsTest {
         house.coming(0, 1, 3);
         house.coming(1, 1, 3);
         house.days(1);
-        dueWant(house, 0, 0, 3, 0, 0, 0, 1, -1);
+        Check.dueCourse(house, 0, 0, 3, 0, 0, 0, 1, -1);
         Check.due("the other thing stays", house.stock(1), 3);
         Check.due("CREDIT", house.order(0, CREDIT), 0);
         house.back(0, 0, 3);
         house.days(5);
-        dueWant(house, 0, 0, 3, 0, 0, 3, 1, -1);
+        Check.dueCourse(house, 0, 0, 3, 0, 0, 3, 1, -1);
         Check.due("what came back stays", house.stock(0), 3);
     }
 
@@ -248,16 +235,16 @@ public final class DayBoundsTest {
         Check.letter(house, "1001 x 1 sum 20");
         house.coming(2, 1, 9);
         house.days(1);
-        dueWant(house, 0, 0, 0, 0, 1, 0, -1, -1);
-        dueWant(house, 1, 0, 0, 0, 1, 0, -1, -1);
+        Check.dueCourse(house, 0, 0, 0, 0, 1, 0, -1, -1);
+        Check.dueCourse(house, 1, 0, 0, 0, 1, 0, -1, -1);
         Check.letter(house, "1000 x 1 sum 10");
         Check.rules(house, "place 1000 by 1002");
         house.days(1);
-        dueWant(house, 2, 0, 0, 1, 0, 0, 2, 2);
+        Check.dueCourse(house, 2, 0, 0, 1, 0, 0, 2, 2);
         Check.due("from its STOCK", house.stock(2), 8);
         Check.letter(house, "1001 x 1 sum 20");
         house.days(1);
-        dueWant(house, 3, 0, 0, 0, 1, 0, -1, -1);
+        Check.dueCourse(house, 3, 0, 0, 0, 1, 0, -1, -1);
         Check.due("no place of a place", house.stock(2), 8);
     }
 
@@ -270,10 +257,10 @@ public final class DayBoundsTest {
             house.coming(1, 1, there);
             house.days(1);
             boolean placed = there >= 3;
-            dueWant(house, 0, 0, 2, placed ? 3 : 0, placed ? 0 : 3, 0, 1, placed ? 1 : -1);
+            Check.dueCourse(house, 0, 0, 2, placed ? 3 : 0, placed ? 0 : 3, 0, 1, placed ? 1 : -1);
             Check.due("STOCK of " + there, house.stock(1), placed ? there - 3 : there);
             Check.due("CREDIT with " + there, house.order(0, CREDIT), placed ? 0 : 30);
-            dueSending(house, 0, 0, 1, placed ? 5 : 2, 1);
+            Check.dueSending(house, 0, 0, 1, placed ? 5 : 2, 1);
         }
     }
 
@@ -281,13 +268,13 @@ public final class DayBoundsTest {
         PostHouse house = Made.house(7, 10000);
         Check.rules(house, "behind 0");
         Check.letter(house, "1000 x 99,1001 x 2 sum 20693 money 20700");
+        house.price(0, 1, 1, 999);
         house.coming(0, 1, 1);
         house.coming(1, 2, 9);
         house.days(1);
-        dueWant(house, 0, 0, 1, 0, 98, 0, 1, -1);
-        dueWant(house, 0, 1, 0, 0, 2, 0, -1, -1);
-        Check.due("CREDIT", house.order(0, CREDIT), 7 + 98 * 7 + 20000);
-        house.price(0, 1, 0, 999);
+        Check.dueCourse(house, 0, 0, 1, 0, 98, 0, 1, -1);
+        Check.dueCourse(house, 0, 1, 0, 0, 2, 0, -1, -1);
+        Check.due("CREDIT by the want's PRICE, not the day's", house.order(0, CREDIT), 7 + 98 * 7 + 20000);
         house.days(20);
         Check.due("CREDIT once", house.order(0, CREDIT), 7 + 98 * 7 + 20000);
         Check.due("nothing is sent then", house.stock(1), 9);
@@ -304,11 +291,11 @@ public final class DayBoundsTest {
         house.coming(1, 2, 1);
         house.days(1);
         Check.due("two wants, one sending", house.count(4), 1);
-        dueSending(house, 0, 0, 2, 4, 1);
+        Check.dueSending(house, 0, 0, 2, 4, 1);
         house.coming(1, 3, 2);
         house.days(1);
         Check.due("placed alone", house.count(4), 2);
-        dueSending(house, 1, 0, 3, 2, 1);
+        Check.dueSending(house, 1, 0, 3, 2, 1);
         Check.letter(house, "1000 x 1 sum 10");
         house.days(3);
         Check.due("CANCELLED", house.want(1, 0, 5), 1);
@@ -331,9 +318,9 @@ public final class DayBoundsTest {
         Check.dueThrow("sending(299, 0)", INDEX, () -> house.sending(299, 0));
         house.days(1);
         Check.due("SENDINGS kept", house.count(4), 300);
-        dueSending(house, 0, 0, 1, 1, 1);
-        dueSending(house, 298, 58, 5, 1, 1);
-        dueSending(house, 299, 0, 6, 1, 1);
+        Check.dueSending(house, 0, 0, 1, 1, 1);
+        Check.dueSending(house, 298, 58, 5, 1, 1);
+        Check.dueSending(house, 299, 0, 6, 1, 1);
         Check.dueThrow("sending(300, 0)", INDEX, () -> house.sending(300, 0));
         Check.due("what is not kept is sent nonetheless", house.want(59, 5, 3), 1);
         Check.due("on its day", house.want(59, 5, 7), 6);
@@ -364,11 +351,11 @@ public final class DayBoundsTest {
         house.coming(0, 1, 40);
         house.coming(1, 1, 200);
         house.days(1);
-        dueSending(house, 0, 0, 1, 199, 1);
+        Check.dueSending(house, 0, 0, 1, 199, 1);
         Check.letter(house, "1001 x 1 sum 10");
         house.coming(1, 2, 1);
         house.days(1);
-        dueSending(house, 1, 1, 2, 1, 1);
+        Check.dueSending(house, 1, 1, 2, 1, 1);
     }
 
     private static void fallingWeight() {
@@ -406,8 +393,8 @@ public final class DayBoundsTest {
         Check.letter(house, "1000x99" + ",1000x99".repeat(7) + "sum792");
         Check.letter(house, "1000x1sum1");
         house.days(1);
-        dueSending(house, 0, 0, 1, 792, 792);
-        dueSending(house, 1, 1, 1, 1, 1);
+        Check.dueSending(house, 0, 0, 1, 792, 792);
+        Check.dueSending(house, 1, 1, 1, 1, 1);
     }
 
     private static void piecesThatCame() {
@@ -492,7 +479,7 @@ public final class DayBoundsTest {
         Check.due("stock(0)", house.stock(0), 1);
         house.coming(1, 3, 2);
         house.days(1);
-        dueWant(house, 0, 0, 5, 2, 0, 1, 3, 1);
+        Check.dueCourse(house, 0, 0, 5, 2, 0, 1, 3, 1);
         Check.rules(house, "place 1000 by 1002");
         Check.due("one of PLACED", house.back(0, 0, 1), true);
         Check.due("stock(1), the thing that came", house.stock(1), 1);
@@ -530,7 +517,7 @@ public final class DayBoundsTest {
         Check.due("days(2)", house.days(2), 2);
         Check.due("two DAYS were", house.count(4), 2);
         Check.due("days(100)", house.days(100), 102);
-        dueSending(house, 2, 0, 3, 1, 1);
+        Check.dueSending(house, 2, 0, 3, 1, 1);
     }
 
     private static void noSuchDays() {
@@ -553,10 +540,7 @@ public final class DayBoundsTest {
         house.days(1);
         house.back(0, 0, 1);
         Check.rules(house, "post 9");
-        int[] due = {2, 2, 120, 14, 6, 6};
-        for (int what = 0; what < due.length; what++) {
-            Check.due("order(0, " + what + ")", house.order(0, what), due[what]);
-        }
+        Check.dueOrder(house, 0, 2, 2, 120, 14, 6, 6);
     }
 
     private static void ofAnOrderNoMore() {
@@ -649,7 +633,7 @@ public final class DayBoundsTest {
         Check.due("in time", house.back(0, 0, 1), true);
         house.days(1);
         Check.due("too late", house.back(0, 0, 1), false);
-        dueWant(house, 0, 0, 2, 0, 1, 1, 1, -1);
+        Check.dueCourse(house, 0, 0, 2, 0, 1, 1, 1, -1);
         Check.due("CREDIT", house.order(0, CREDIT), 20);
         Check.due("stock(0)", house.stock(0), 1);
     }
@@ -676,8 +660,8 @@ public final class DayBoundsTest {
         Check.letter(house, "1000 x 5 sum 50");
         house.coming(0, 2, 4);
         house.days(3);
-        dueSending(house, 0, 0, 2, 1, 1);
-        dueSending(house, 1, 1, 2, 3, 3);
+        Check.dueSending(house, 0, 0, 2, 1, 1);
+        Check.dueSending(house, 1, 1, 2, 3, 3);
     }
 
     private static void ofASendingNoMore() {

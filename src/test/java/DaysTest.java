@@ -1,16 +1,9 @@
-import java.util.NoSuchElementException;
-
-/** Promises 16 to 20: days, order, want, back, sending. */
+/** Orders in their course (promises 16 to 20): sent, placed, cancelled, packed, returned. */
 public final class DaysTest {
-    private static final Class<IndexOutOfBoundsException> INDEX = IndexOutOfBoundsException.class;
-    private static final Class<IllegalArgumentException> ARGUMENT = IllegalArgumentException.class;
-    private static final Class<NoSuchElementException> ELEMENT = NoSuchElementException.class;
-
     private DaysTest() {
     }
 
     public static void main(String[] args) {
-        days();
         firstComeFirstServed();
         sentInParts();
         cancelled();
@@ -19,11 +12,8 @@ public final class DaysTest {
         placedThingIsSentFirstToItsOwnWants();
         lastDayGoesOn();
         parcels();
-        sendingsKept();
         returns();
         returnsOfPlacedFirst();
-        returnsInTime();
-        exceptions();
         Check.finish();
     }
 
@@ -38,37 +28,6 @@ public final class DaysTest {
         return house;
     }
 
-    private static void dueWant(PostHouse house, int order, int want, int... due) {
-        for (int what = 3; what < due.length + 3; what++) {
-            Check.due("want(" + order + ", " + want + ", " + what + ")", house.want(order, want, what),
-                    due[what - 3]);
-        }
-    }
-
-    private static void dueSending(PostHouse house, int sending, int... due) {
-        for (int what = 0; what < due.length; what++) {
-            Check.due("sending(" + sending + ", " + what + ")", house.sending(sending, what), due[what]);
-        }
-    }
-
-    private static void days() {
-        PostHouse house = new PostHouse();
-        Check.due("days(0)", house.days(0), 0);
-        Check.due("days(100)", house.days(100), 100);
-        Check.due("days(1)", house.days(1), 101);
-        for (int n : new int[] {-1, 101, Integer.MIN_VALUE, Integer.MAX_VALUE}) {
-            Check.dueThrow("days(" + n + ")", ARGUMENT, () -> house.days(n));
-        }
-        Check.due("TODAY", house.count(0), 101);
-        for (int i = 0; i < 8; i++) {
-            house.days(100);
-        }
-        Check.due("days(97)", house.days(97), 998);
-        Check.due("days(1) to the last", house.days(1), 999);
-        Check.due("days(1) behind the last", house.days(1), 999);
-        Check.due("days(100) behind the last", house.days(100), 999);
-    }
-
     private static void firstComeFirstServed() {
         PostHouse house = house(1, 1);
         Check.letter(house, "1000 x 3,1001 x 1,1000 x 2 sum 70");
@@ -77,16 +36,16 @@ public final class DaysTest {
         house.days(0);
         Check.due("nothing is sent ahead of the day", house.order(0, 4), 6);
         house.days(1);
-        dueWant(house, 0, 0, 3, 0, 0, 0, 1, -1);
-        dueWant(house, 0, 1, 0, 0, 0, 0, -1, -1);
-        dueWant(house, 0, 2, 2, 0, 0, 0, 1, -1);
-        dueWant(house, 1, 0, 1, 0, 0, 0, 1, -1);
+        Check.dueCourse(house, 0, 0, 3, 0, 0, 0, 1, -1);
+        Check.dueCourse(house, 0, 1, 0, 0, 0, 0, -1, -1);
+        Check.dueCourse(house, 0, 2, 2, 0, 0, 0, 1, -1);
+        Check.dueCourse(house, 1, 0, 1, 0, 0, 0, 1, -1);
         Check.due("LEFT of 0", house.order(0, 4), 1);
         Check.due("LEFT of 1", house.order(1, 4), 3);
         Check.due("stock(0)", house.stock(0), 0);
         Check.due("SENDINGS", house.count(4), 2);
-        dueSending(house, 0, 0, 1, 5, 1);
-        dueSending(house, 1, 1, 1, 1, 1);
+        Check.dueSending(house, 0, 0, 1, 5, 1);
+        Check.dueSending(house, 1, 1, 1, 1, 1);
     }
 
     private static void sentInParts() {
@@ -95,17 +54,17 @@ public final class DaysTest {
         house.coming(0, 1, 3);
         house.coming(0, 4, 20);
         house.days(2);
-        dueWant(house, 0, 0, 3, 0, 0, 0, 1, -1);
+        Check.dueCourse(house, 0, 0, 3, 0, 0, 0, 1, -1);
         house.days(5);
-        dueWant(house, 0, 0, 10, 0, 0, 0, 4, -1);
+        Check.dueCourse(house, 0, 0, 10, 0, 0, 0, 4, -1);
         Check.due("stock(0)", house.stock(0), 13);
         Check.due("SENDINGS", house.count(4), 2);
-        dueSending(house, 1, 0, 4, 7, 1);
+        Check.dueSending(house, 1, 0, 4, 7, 1);
         house.thing(2000, 1, 0, 1);
         Check.rules(house, "place 1000 by 2000");
         house.coming(1, 8, 5);
         house.days(30);
-        dueWant(house, 0, 0, 10, 0, 0, 0, 4, -1);
+        Check.dueCourse(house, 0, 0, 10, 0, 0, 0, 4, -1);
         Check.due("SENDINGS then", house.count(4), 2);
     }
 
@@ -118,8 +77,8 @@ public final class DaysTest {
         Check.due("LEFT on the last day of waiting", house.order(0, 4), 5);
         Check.due("CREDIT yet", house.order(0, 3), 7);
         house.days(1);
-        dueWant(house, 0, 0, 2, 0, 3, 0, 3, -1);
-        dueWant(house, 0, 1, 0, 0, 2, 0, -1, -1);
+        Check.dueCourse(house, 0, 0, 2, 0, 3, 0, 3, -1);
+        Check.dueCourse(house, 0, 1, 0, 0, 2, 0, -1, -1);
         Check.due("LEFT", house.order(0, 4), 0);
         Check.due("CREDIT", house.order(0, 3), 7 + 30 + 40);
         Check.due("SENDINGS", house.count(4), 1);
@@ -144,18 +103,18 @@ public final class DaysTest {
         house.days(1);
         Check.due("not placed ahead of its day", house.order(0, 4), 5);
         house.days(1);
-        dueWant(house, 0, 0, 1, 4, 0, 0, 2, 1);
-        dueWant(house, 1, 0, 0, 0, 3, 0, -1, -1);
+        Check.dueCourse(house, 0, 0, 1, 4, 0, 0, 2, 1);
+        Check.dueCourse(house, 1, 0, 0, 0, 3, 0, -1, -1);
         Check.due("LEFT of 0", house.order(0, 4), 0);
         Check.due("LEFT of 1", house.order(1, 4), 0);
         Check.due("stock(1)", house.stock(1), 2);
         Check.due("CREDIT of 0", house.order(0, 3), 0);
         Check.due("CREDIT of 1", house.order(1, 3), 30);
         Check.due("SENDINGS", house.count(4), 1);
-        dueSending(house, 0, 0, 2, 5, 1);
+        Check.dueSending(house, 0, 0, 2, 5, 1);
         Check.letter(house, "1000 x 2 sum 20");
         house.days(2);
-        dueWant(house, 2, 0, 0, 2, 0, 0, 4, 1);
+        Check.dueCourse(house, 2, 0, 0, 2, 0, 0, 4, 1);
         Check.due("just as many", house.stock(1), 0);
     }
 
@@ -168,9 +127,9 @@ public final class DaysTest {
         house.days(1);
         Check.rules(house, "behind 1;place 1000 by 1002;place 1001 by 1000");
         house.days(1);
-        dueWant(house, 0, 0, 0, 1, 0, 0, 2, 2);
-        dueWant(house, 1, 0, 0, 0, 1, 0, -1, -1);
-        dueWant(house, 1, 1, 0, 0, 1, 0, -1, -1);
+        Check.dueCourse(house, 0, 0, 0, 1, 0, 0, 2, 2);
+        Check.dueCourse(house, 1, 0, 0, 0, 1, 0, -1, -1);
+        Check.dueCourse(house, 1, 1, 0, 0, 1, 0, -1, -1);
         Check.rules(house, "place 1000 by 1001");
         Check.due("the thing that came stays", house.want(0, 0, 8), 2);
         Check.due("back", house.back(0, 0, 1), true);
@@ -183,10 +142,10 @@ public final class DaysTest {
         Check.letter(house, "1001 x 1,1000 x 1,1001 x 1 sum 50");
         house.coming(1, 1, 2);
         house.days(1);
-        dueWant(house, 0, 0, 1, 0, 0, 0, 1, -1);
-        dueWant(house, 0, 1, 0, 1, 0, 0, 1, 1);
-        dueWant(house, 0, 2, 0, 0, 1, 0, -1, -1);
-        dueSending(house, 0, 0, 1, 2, 1);
+        Check.dueCourse(house, 0, 0, 1, 0, 0, 0, 1, -1);
+        Check.dueCourse(house, 0, 1, 0, 1, 0, 0, 1, 1);
+        Check.dueCourse(house, 0, 2, 0, 0, 1, 0, -1, -1);
+        Check.dueSending(house, 0, 0, 1, 2, 1);
     }
 
     /** TODAY stays 999, yet a DAY is a DAY: what there is is sent. */
@@ -201,8 +160,8 @@ public final class DaysTest {
         Check.letter(house, "1000 x 2 sum 20");
         Check.due("back on the last day", house.back(0, 0, 1), true);
         Check.due("days(100)", house.days(100), 999);
-        dueWant(house, 1, 0, 1, 0, 0, 0, 999, -1);
-        dueSending(house, 1, 1, 999, 1, 1);
+        Check.dueCourse(house, 1, 0, 1, 0, 0, 0, 999, -1);
+        Check.dueSending(house, 1, 1, 999, 1, 1);
         Check.due("SENDINGS", house.count(4), 2);
         Check.due("LEFT waits", house.order(1, 4), 1);
     }
@@ -246,7 +205,7 @@ public final class DaysTest {
         house.coming(0, 1, 1);
         house.coming(1, 1, 3);
         house.days(1);
-        dueSending(house, 0, 0, 1, 4, 3);
+        Check.dueSending(house, 0, 0, 1, 4, 3);
     }
 
     /** Eight wants, of each one piece sent and one placed, no two of one weight. */
@@ -266,8 +225,8 @@ public final class DaysTest {
         Check.rules(house, places.toString());
         Check.letter(house, lines + "sum16");
         house.days(1);
-        dueSending(house, 0, 0, 1, 16, 16);
-        dueWant(house, 0, 7, 1, 1, 0, 0, 1, 15);
+        Check.dueSending(house, 0, 0, 1, 16, 16);
+        Check.dueCourse(house, 0, 7, 1, 1, 0, 0, 1, 15);
     }
 
     private static void oneSendingBehindAnother() {
@@ -279,30 +238,10 @@ public final class DaysTest {
         house.coming(0, 1, 9);
         house.coming(1, 1, 9);
         house.days(1);
-        dueSending(house, 0, 0, 1, 2, 2);
-        dueSending(house, 1, 1, 1, 1, 1);
-        dueSending(house, 2, 2, 1, 5, 1);
-        dueSending(house, 3, 3, 1, 2, 1);
-    }
-
-    private static void sendingsKept() {
-        PostHouse house = house(1, 1, 1, 1, 1, 1);
-        for (int i = 0; i < 60; i++) {
-            Check.letter(house, "1000x1,1001x1,1002x1,1003x1,1004x1,1005x1sum210");
-        }
-        for (int i = 0; i < 6; i++) {
-            house.coming(i, i + 1, 60);
-        }
-        house.days(4);
-        Check.due("SENDINGS", house.count(4), 240);
-        Check.dueThrow("sending(240, 0)", INDEX, () -> house.sending(240, 0));
-        house.days(2);
-        Check.due("SENDINGS kept", house.count(4), 300);
-        dueSending(house, 0, 0, 1, 1, 1);
-        dueSending(house, 299, 59, 5, 1, 1);
-        Check.dueThrow("sending(300, 0)", INDEX, () -> house.sending(300, 0));
-        Check.due("sent nonetheless", house.want(7, 5, 3), 1);
-        Check.due("LEFT", house.order(59, 4), 0);
+        Check.dueSending(house, 0, 0, 1, 2, 2);
+        Check.dueSending(house, 1, 1, 1, 1, 1);
+        Check.dueSending(house, 2, 2, 1, 5, 1);
+        Check.dueSending(house, 3, 3, 1, 2, 1);
     }
 
     private static void returns() {
@@ -317,7 +256,7 @@ public final class DaysTest {
         Check.due("some", house.back(0, 0, 3), true);
         Check.due("stock(0)", house.stock(0), 3);
         Check.due("CREDIT", house.order(0, 3), 30);
-        dueWant(house, 0, 0, 4, 0, 0, 3, 1, -1);
+        Check.dueCourse(house, 0, 0, 4, 0, 0, 3, 1, -1);
         Check.due("LEFT", house.order(0, 4), 2);
         Check.due("more than is left", house.back(0, 0, 2), false);
         Check.due("the last", house.back(0, 0, 1), true);
@@ -332,7 +271,7 @@ public final class DaysTest {
         house.coming(0, 1, 4);
         house.coming(1, 1, 2);
         house.days(1);
-        dueWant(house, 0, 0, 4, 2, 0, 0, 1, 1);
+        Check.dueCourse(house, 0, 0, 4, 2, 0, 0, 1, 1);
         Check.due("three", house.back(0, 0, 3), true);
         Check.due("stock(1)", house.stock(1), 2);
         Check.due("stock(0)", house.stock(0), 1);
@@ -340,59 +279,7 @@ public final class DaysTest {
         Check.due("three more", house.back(0, 0, 3), true);
         Check.due("stock(1) then", house.stock(1), 2);
         Check.due("stock(0) then", house.stock(0), 4);
-        dueWant(house, 0, 0, 4, 2, 0, 6, 1, 1);
+        Check.dueCourse(house, 0, 0, 4, 2, 0, 6, 1, 1);
         Check.due("no more", house.back(0, 0, 1), false);
-    }
-
-    private static void returnsInTime() {
-        PostHouse house = house(1);
-        Check.letter(house, "1000 x 3 sum 30");
-        house.coming(0, 2, 1);
-        house.coming(0, 5, 1);
-        house.days(19);
-        Check.due("14 days behind the last", house.back(0, 0, 1), true);
-        house.days(1);
-        Check.due("15 days behind the last", house.back(0, 0, 1), false);
-        Check.due("stock(0)", house.stock(0), 1);
-        Check.rules(house, "back 15");
-        Check.due("by the rules of the day", house.back(0, 0, 1), true);
-        PostHouse strict = house(1);
-        Check.rules(strict, "back 0");
-        Check.letter(strict, "1000 x 2 sum 20");
-        strict.coming(0, 1, 2);
-        strict.days(1);
-        Check.due("BACK 0 on the day", strict.back(0, 0, 1), true);
-        strict.days(1);
-        Check.due("BACK 0 a day behind", strict.back(0, 0, 1), false);
-    }
-
-    private static void exceptions() {
-        PostHouse house = house(1);
-        Check.letter(house, "1000 x 1 sum 10");
-        house.coming(0, 1, 1);
-        house.days(1);
-        for (int none : new int[] {-1, 1, 8, 60, Integer.MIN_VALUE, Integer.MAX_VALUE}) {
-            Check.dueThrow("order(" + none + ", 0)", INDEX, () -> house.order(none, 0));
-            Check.dueThrow("order(" + none + ", 9)", INDEX, () -> house.order(none, 9));
-            Check.dueThrow("want(" + none + ", 0, 0)", INDEX, () -> house.want(none, 0, 0));
-            Check.dueThrow("want(0, " + none + ", 0)", INDEX, () -> house.want(0, none, 0));
-            Check.dueThrow("want(0, " + none + ", 99)", INDEX, () -> house.want(0, none, 99));
-            Check.dueThrow("back(" + none + ", 0, 1)", INDEX, () -> house.back(none, 0, 1) ? 1 : 0);
-            Check.dueThrow("back(0, " + none + ", 1)", INDEX, () -> house.back(0, none, 1) ? 1 : 0);
-            Check.dueThrow("back(0, " + none + ", 0)", INDEX, () -> house.back(0, none, 0) ? 1 : 0);
-            Check.dueThrow("sending(" + none + ", 0)", INDEX, () -> house.sending(none, 0));
-            Check.dueThrow("sending(" + none + ", 4)", INDEX, () -> house.sending(none, 4));
-        }
-        for (int what : new int[] {-1, 9, Integer.MIN_VALUE, Integer.MAX_VALUE}) {
-            Check.dueThrow("order(0, " + what + ")", ELEMENT, () -> house.order(0, what));
-            Check.dueThrow("want(0, 0, " + what + ")", ELEMENT, () -> house.want(0, 0, what));
-            Check.dueThrow("sending(0, " + what + ")", ELEMENT, () -> house.sending(0, what));
-        }
-        Check.dueThrow("order(0, 6)", ELEMENT, () -> house.order(0, 6));
-        Check.dueThrow("sending(0, 4)", ELEMENT, () -> house.sending(0, 4));
-        for (int many : new int[] {0, -1, 100, Integer.MIN_VALUE, Integer.MAX_VALUE}) {
-            Check.dueThrow("back(0, 0, " + many + ")", ARGUMENT, () -> house.back(0, 0, many) ? 1 : 0);
-        }
-        Check.due("back(0, 0, 99)", house.back(0, 0, 99), false);
     }
 }

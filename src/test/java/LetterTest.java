@@ -1,15 +1,10 @@
-/** Promises 12 to 15: letter, fault, doubt, settle. */
+/** Letters in their course (promises 12, 14 and 15): read, mended, in doubt, settled. */
 public final class LetterTest {
-    private static final Class<IndexOutOfBoundsException> INDEX = IndexOutOfBoundsException.class;
-    private static final Class<UnsupportedOperationException> UNSUPPORTED = UnsupportedOperationException.class;
-
     private LetterTest() {
     }
 
     public static void main(String[] args) {
         plain();
-        forms();
-        faults();
         mended();
         mendingsOfKnownLines();
         noMending();
@@ -18,9 +13,6 @@ public final class LetterTest {
         settlesMendedByItsMending();
         settlesWithThingsToldLater();
         settlesByRulesOfTheDay();
-        sixtyOrders();
-        twentyDoubts();
-        doubtExceptions();
         Check.finish();
     }
 
@@ -39,30 +31,15 @@ public final class LetterTest {
         return house;
     }
 
-    private static void dueDoubt(PostHouse house, int doubt, int... due) {
-        for (int what = 0; what < due.length; what++) {
-            Check.due("doubt(" + doubt + ", " + what + ")", house.doubt(doubt, what), due[what]);
-        }
-    }
-
-    private static void dueWant(PostHouse house, int order, int want, int... due) {
-        for (int what = 0; what < due.length; what++) {
-            Check.due("want(" + order + ", " + want + ", " + what + ")", house.want(order, want, what), due[what]);
-        }
-    }
-
     private static void plain() {
         PostHouse house = house();
         house.days(3);
         Check.due("letter", Check.letter(house, "1000 x 2,0007 x 1,1000 x 3 sum 90 money 100"), 0);
         Check.due("fault()", house.fault(), -1);
-        int[] due = {3, 3, 100, 10, 6, 0};
-        for (int what = 0; what < due.length; what++) {
-            Check.due("order(0, " + what + ")", house.order(0, what), due[what]);
-        }
-        dueWant(house, 0, 0, 0, 2, 10, 0, 0, 0, 0, -1, -1);
-        dueWant(house, 0, 1, 3, 1, 40, 0, 0, 0, 0, -1, -1);
-        dueWant(house, 0, 2, 0, 3, 10, 0, 0, 0, 0, -1, -1);
+        Check.dueOrder(house, 0, 3, 3, 100, 10, 6, 0);
+        Check.dueWant(house, 0, 0, 0, 2, 10, 0, 0, 0, 0, -1, -1);
+        Check.dueWant(house, 0, 1, 3, 1, 40, 0, 0, 0, 0, -1, -1);
+        Check.dueWant(house, 0, 2, 0, 3, 10, 0, 0, 0, 0, -1, -1);
         Check.due("a second letter", Check.letter(house, "2000 x 1 sum 30"), 1);
         Check.due("its money", house.order(1, 2), 30);
         Check.due("its CREDIT", house.order(1, 3), 0);
@@ -71,136 +48,58 @@ public final class LetterTest {
         Check.due("count(8)", house.count(8), 10);
     }
 
-    private static void forms() {
-        PostHouse house = house();
-        Check.due("without blanks", Check.letter(house, "1000x1,1001x1sum30money40"), 0);
-        Check.due("with blanks", Check.letter(house, "   1000   x  1  ,  1001 x 1   sum  30   money   40  "), 1);
-        Check.due("six digits", Check.letter(house, "1000 x 000099 sum 000990 money 000990"), 2);
-        Check.due("99 pieces", house.want(2, 0, 1), 99);
-        Check.due("eight lines", Check.letter(house,
-                "1000x1,1000x1,1000x1,1000x1,1000x1,1000x1,1000x1,1000x1 sum 80"), 3);
-        Check.due("eight wants", house.order(3, 1), 8);
-        Check.due("greatest money", Check.letter(house, "1000 x 1 sum 10 money 999999"), 4);
-        Check.due("its CREDIT", house.order(4, 3), 999989);
-        Check.due("greatest sum", Check.letter(house, "1000 x 1 sum 999999"), -2);
-        dueDoubt(house, 0, 1, 0, 1, 1, 999999, 999999);
-        house.thing(0, 1, 0, 1);
-        house.price(6, 1, 0, 999);
-        Check.due("least code and price", Check.letter(house, "0000 x 1 sum 1"), 5);
-        dueWant(house, 5, 0, 6, 1, 1);
-        Check.due("least sum and money", Check.letter(house, "1000 x 1 sum 0 money 0"), -3);
-        dueDoubt(house, 1, 1, 0, 1, 1, 0, 0);
-    }
-
-    private static void faults() {
-        PostHouse house = house();
-        Check.wrongLetter(house, "", 0);
-        Check.wrongLetter(house, "  ", 2);
-        Check.wrongLetter(house, "100 x 1 sum 10", 0);
-        Check.wrongLetter(house, "10000 x 1 sum 10", 0);
-        Check.wrongLetter(house, "x 1 sum 10", 0);
-        Check.wrongLetter(house, ",1000 x 1 sum 10", 0);
-        Check.wrongLetter(house, "1000", 4);
-        Check.wrongLetter(house, "1000 ", 5);
-        Check.wrongLetter(house, "1000 X 1 sum 10", 5);
-        Check.wrongLetter(house, "1000 xx 1 sum 10", 5);
-        Check.wrongLetter(house, "1000 1 sum 10", 5);
-        Check.wrongLetter(house, "1000 x", 6);
-        Check.wrongLetter(house, "1000 x sum 10", 7);
-        Check.wrongLetter(house, "1000 x 0 sum 10", 7);
-        Check.wrongLetter(house, "1000 x 100 sum 10", 7);
-        Check.wrongLetter(house, "1000 x 0000001 sum 10", 7);
-        Check.wrongLetter(house, "1000 x -1 sum 10", 7);
-        Check.wrongLetter(house, "1000 x 1", 8);
-        Check.wrongLetter(house, "1000 x 1 ", 9);
-        Check.wrongLetter(house, "1000 x 1;", 8);
-        Check.wrongLetter(house, "1000 x 1,", 9);
-        Check.wrongLetter(house, "1000 x 1,,", 9);
-        Check.wrongLetter(house, "1000 x 1,sum 10", 9);
-        Check.wrongLetter(house, "1000 x 1 1000 x 1 sum 20", 9);
-        Check.wrongLetter(house, "1000 x 1 money 10", 9);
-        Check.wrongLetter(house, "1000 x 1 sums 10", 9);
-        Check.wrongLetter(house, "1000 x 1 dum 10", 9);
-        Check.wrongLetter(house, "1000 x 1 sun 10", 9);
-        Check.wrongLetter(house, "1000 x 1 sum", 12);
-        Check.wrongLetter(house, "1000 x 1 sum money 5", 13);
-        Check.wrongLetter(house, "1000 x 1 sum 1000000", 13);
-        Check.wrongLetter(house, "1000 x 1 sum 0000010", 13);
-        Check.wrongLetter(house, "1000 x 1 sum 10,", 15);
-        Check.wrongLetter(house, "1000 x 1 sum 10 20", 16);
-        Check.wrongLetter(house, "1000 x 1 sum 10 sum 10", 16);
-        Check.wrongLetter(house, "1000 x 1 sum 10 money", 21);
-        Check.wrongLetter(house, "1000 x 1 sum 10 money  ", 23);
-        Check.wrongLetter(house, "1000 x 1 sum 10 money x", 22);
-        Check.wrongLetter(house, "1000 x 1 sum 10 money 1000000", 22);
-        Check.wrongLetter(house, "1000 x 1 sum 10 money 10 money 10", 25);
-        Check.wrongLetter(house, "1000 x 1 sum 10 money 10;", 24);
-        Check.wrongLetter(house, "1000 x 1 sum 10\0", 15);
-        Check.wrongLetter(house, "1000 x 1 sum 10\u00a0", 15);
-        Check.wrongLetter(house, "1000 x 1\nsum 10", 8);
-        Check.wrongLetter(house, "1000x1,1000x1,1000x1,1000x1,1000x1,1000x1,1000x1,1000x1 , 1000x1 sum 90", 56);
-        Check.wrongLetter(house, "post 1", 0);
-        Check.due("ORDERS behind wrong letters", house.count(2), 0);
-        Check.due("DOUBTS behind wrong letters", house.count(3), 0);
-        Check.due("a right letter", Check.letter(house, "1000 x 1 sum 10"), 0);
-        Check.due("fault() behind a right letter", house.fault(), -1);
-        Check.wrongLetter(house, "9", 0);
-        Check.rules(house, "post 0");
-        Check.due("fault() behind right rules", house.fault(), -1);
-    }
-
     private static void mended() {
         PostHouse house = house();
         Check.due("an unknown code", Check.letter(house, "1003 x 2 sum 40"), 0);
-        dueWant(house, 0, 0, 1, 2, 20);
+        Check.dueWant(house, 0, 0, 1, 2, 20);
         Check.due("count(6)", house.count(6), 1);
         Check.due("a first digit", Check.letter(house, "3000 x 1,1001 x 1 sum 50 money 60"), 1);
-        dueWant(house, 1, 0, 2, 1, 30);
-        dueWant(house, 1, 1, 1, 1, 20);
+        Check.dueWant(house, 1, 0, 2, 1, 30);
+        Check.dueWant(house, 1, 1, 1, 1, 20);
         Check.due("leading zeros", Check.letter(house, "1007 x 1 sum 40"), 2);
-        dueWant(house, 2, 0, 3, 1, 40);
+        Check.dueWant(house, 2, 0, 3, 1, 40);
         Check.due("a line behind", Check.letter(house, "1000 x 1,0107 x 2 sum 90"), 3);
-        dueWant(house, 3, 1, 3, 2, 40);
+        Check.dueWant(house, 3, 1, 3, 2, 40);
         Check.due("count(6) behind", house.count(6), 4);
         Check.due("two digits unlike", Check.letter(house, "1011 x 1 sum 10"), -2);
-        dueDoubt(house, 0, 1, 0, 1, 0, 10, 10);
+        Check.dueDoubt(house, 0, 1, 0, 1, 0, 10, 10);
         Check.due("no thing sold today", Check.letter(house, "5002 x 1 sum 50"), -3);
-        dueDoubt(house, 1, 1, 0, 1, 0, 50, 50);
+        Check.dueDoubt(house, 1, 1, 0, 1, 0, 50, 50);
         house.days(5);
         Check.due("a thing sold today", Check.letter(house, "5002 x 1 sum 50"), 4);
-        dueWant(house, 4, 0, 4, 1, 50);
+        Check.dueWant(house, 4, 0, 4, 1, 50);
         Check.due("a code of a thing that is not sold", Check.letter(house, "5001 x 1 sum 50"), 5);
-        dueWant(house, 5, 0, 4, 1, 50);
+        Check.dueWant(house, 5, 0, 4, 1, 50);
     }
 
     private static void mendingsOfKnownLines() {
         PostHouse house = house();
         Check.due("a known code that was meant otherwise", Check.letter(house, "1000 x 1,2000 x 1 sum 50"), 0);
-        dueWant(house, 0, 0, 1, 1, 20);
-        dueWant(house, 0, 1, 2, 1, 30);
+        Check.dueWant(house, 0, 0, 1, 1, 20);
+        Check.dueWant(house, 0, 1, 2, 1, 30);
         Check.due("two lines that may be wrong", Check.letter(house, "1000 x 1,1000 x 1 sum 30"), -2);
-        dueDoubt(house, 0, 1, 2, 2, 2, 30, 30);
+        Check.dueDoubt(house, 0, 1, 2, 2, 2, 30, 30);
         Check.due("two things for one line", Check.letter(house, "1002 x 2,1000 x 1 sum 30"), 1);
         house.thing(1009, 1, 0, 1);
         house.price(6, 10, 0, 999);
         Check.due("now two", Check.letter(house, "1002 x 2,2000 x 1 sum 50"), -3);
-        dueDoubt(house, 1, 1, 2, 2, 1, 50, 50);
+        Check.dueDoubt(house, 1, 1, 2, 2, 1, 50, 50);
         Check.due("a plain one has no mendings", Check.letter(house, "1000 x 1 sum 10"), 2);
-        dueWant(house, 2, 0, 0, 1, 10);
+        Check.dueWant(house, 2, 0, 0, 1, 10);
         Check.due("plain and money below due", Check.letter(house, "1000 x 1 sum 10 money 9"), -4);
-        dueDoubt(house, 2, 1, 0, 1, 1, 10, 9);
+        Check.dueDoubt(house, 2, 1, 0, 1, 1, 10, 9);
     }
 
     private static void noMending() {
         PostHouse house = house();
         Check.due("two unknown lines", Check.letter(house, "1003 x 1,1004 x 1 sum 20"), -2);
-        dueDoubt(house, 0, 1, 0, 2, 0, 20, 20);
+        Check.dueDoubt(house, 0, 1, 0, 2, 0, 20, 20);
         Check.due("a wrong sum", Check.letter(house, "1003 x 1,0007 x 1 sum 55 money 999"), -3);
-        dueDoubt(house, 1, 1, 0, 2, 1, 55, 999);
+        Check.dueDoubt(house, 1, 1, 0, 2, 1, 55, 999);
         Check.due("a wrong sum of known lines", Check.letter(house, "0007 x 1,2000 x 1 sum 71"), -4);
-        dueDoubt(house, 2, 1, 0, 2, 2, 71, 71);
+        Check.dueDoubt(house, 2, 1, 0, 2, 2, 71, 71);
         Check.due("the same code is no mending", Check.letter(house, "0007 x 1 sum 41"), -5);
-        dueDoubt(house, 3, 1, 0, 1, 1, 41, 41);
+        Check.dueDoubt(house, 3, 1, 0, 1, 1, 41, 41);
         Check.due("count(3)", house.count(3), 4);
         Check.due("count(2)", house.count(2), 0);
         Check.due("count(6)", house.count(6), 0);
@@ -210,7 +109,7 @@ public final class LetterTest {
         PostHouse house = house();
         Check.rules(house, "post 5;free 30");
         Check.due("below FREE without POST", Check.letter(house, "1001 x 1 sum 20"), -2);
-        dueDoubt(house, 0, 1, 0, 1, 1, 20, 20);
+        Check.dueDoubt(house, 0, 1, 0, 1, 1, 20, 20);
         Check.due("money just below", Check.letter(house, "1001 x 1 sum 20 money 24"), -3);
         Check.due("money just enough", Check.letter(house, "1001 x 1 sum 20 money 25"), 0);
         Check.due("CREDIT", house.order(0, 3), 0);
@@ -219,7 +118,7 @@ public final class LetterTest {
         Check.due("no POST", house.order(1, 5), 0);
         Check.due("money below", Check.letter(house, "2000 x 1 sum 30 money 29"), -4);
         Check.due("mended, money below", Check.letter(house, "2009 x 1 sum 30 money 29"), -5);
-        dueDoubt(house, 3, 1, 1, 1, 1, 30, 29);
+        Check.dueDoubt(house, 3, 1, 1, 1, 1, 30, 29);
         Check.due("count(6)", house.count(6), 0);
         Check.due("mended, money above", Check.letter(house, "2009 x 1 sum 30 money 31"), 2);
         Check.due("CREDIT of it", house.order(2, 3), 1);
@@ -235,8 +134,8 @@ public final class LetterTest {
         Check.due("WANTS", house.order(0, 1), 1);
         Check.due("money", house.order(0, 2), 100);
         Check.due("CREDIT", house.order(0, 3), 20);
-        dueWant(house, 0, 0, 3, 2, 40);
-        dueDoubt(house, 0, 0, 0, 3, 1, 999, 100);
+        Check.dueWant(house, 0, 0, 3, 2, 40);
+        Check.dueDoubt(house, 0, 0, 0, 3, 1, 999, 100);
         Check.dueThrow("settled twice", IllegalStateException.class, () -> house.settle(0, true));
         Check.dueThrow("settled twice, away", IllegalStateException.class, () -> house.settle(0, false));
         Check.due("no line is known", house.settle(1, true), -1);
@@ -245,7 +144,7 @@ public final class LetterTest {
         Check.due("it waits on, too", house.doubt(2, 0), 1);
         Check.due("count(3)", house.count(3), 2);
         Check.due("thrown away", house.settle(1, false), -1);
-        dueDoubt(house, 1, 0, 0, 1, 0, 999, 999);
+        Check.dueDoubt(house, 1, 0, 0, 1, 0, 999, 999);
         Check.due("count(3) then", house.count(3), 1);
         Check.due("the next number", Check.letter(house, "9998 x 1 sum 1"), -5);
         Check.due("the number of another stays", house.doubt(2, 5), 79);
@@ -259,13 +158,13 @@ public final class LetterTest {
         house.price(0, 10, 0, 3);
         house.price(0, 5, 4, 9);
         Check.due("mended, money below due", Check.letter(house, "1001 x 1 sum 10 money 59"), -2);
-        dueDoubt(house, 0, 1, 1, 1, 1, 10, 59);
+        Check.dueDoubt(house, 0, 1, 1, 1, 1, 10, 59);
         house.thing(1001, 1, 0, 1);
         house.price(1, 1, 0, 9);
         Check.due("it can not be taken yet", house.settle(0, true), -1);
         house.days(4);
         Check.due("taken", house.settle(0, true), 0);
-        dueWant(house, 0, 0, 0, 1, 5);
+        Check.dueWant(house, 0, 0, 0, 1, 5);
         Check.due("CREDIT", house.order(0, 3), 4);
         Check.due("the day", house.order(0, 0), 4);
         Check.due("count(6): not at once", house.count(6), 0);
@@ -281,8 +180,8 @@ public final class LetterTest {
         Check.due("taken", house.settle(0, true), 0);
         Check.due("both are known", house.order(0, 1), 2);
         Check.due("CREDIT", house.order(0, 3), 90);
-        dueDoubt(house, 0, 0, 0, 2, 0, 7, 200);
-        dueWant(house, 0, 1, 6, 1, 60);
+        Check.dueDoubt(house, 0, 0, 0, 2, 0, 7, 200);
+        Check.dueWant(house, 0, 1, 6, 1, 60);
     }
 
     private static void settlesByRulesOfTheDay() {
@@ -298,69 +197,5 @@ public final class LetterTest {
         Check.rules(house, "free 10");
         Check.due("FREE", house.settle(1, true), 1);
         Check.due("no POST", house.order(1, 5), 0);
-    }
-
-    private static void sixtyOrders() {
-        PostHouse house = house();
-        Check.letter(house, "1000 x 1 sum 9");
-        Check.letter(house, "1000 x 1,4444 x 1 sum 20");
-        for (int i = 0; i < 60; i++) {
-            Check.due("letter " + i, Check.letter(house, "1000 x 1 sum 10"), i);
-        }
-        Check.tape(house, "1003 x 1 sum 10");
-        Check.dueThrow("a 61st order", UNSUPPORTED, house::letter);
-        Check.due("the tape is used up", house.end(1), false);
-        Check.due("count(6)", house.count(6), 0);
-        Check.wrongLetter(house, "1000 x 1 sum", 12);
-        Check.tape(house, "1000 x 1 sum 10");
-        Check.dueThrow("a 61st order again", UNSUPPORTED, house::letter);
-        Check.due("fault() of a letter without a wrong byte", house.fault(), -1);
-        Check.due("a doubt is fine", Check.letter(house, "1000 x 1 sum 10 money 9"), -4);
-        Check.dueThrow("taken as a 61st", UNSUPPORTED, () -> house.settle(1, true));
-        Check.due("it waits on", house.doubt(1, 0), 1);
-        Check.due("one that can not be taken", house.settle(0, true), -1);
-        Check.due("thrown away", house.settle(1, false), -1);
-        Check.dueThrow("not waiting", IllegalStateException.class, () -> house.settle(1, true));
-        Check.due("count(2)", house.count(2), 60);
-        Check.due("count(7)", house.count(7), 600);
-        Check.dueThrow("order(60, 0)", INDEX, () -> house.order(60, 0));
-    }
-
-    private static void twentyDoubts() {
-        PostHouse house = house();
-        for (int i = 0; i < 20; i++) {
-            Check.due("doubt " + i, Check.letter(house, "9999 x 1 sum 10"), -2 - i);
-        }
-        Check.tape(house, "9999 x 1 sum 10");
-        Check.dueThrow("a 21st doubt", UNSUPPORTED, house::letter);
-        Check.due("the tape is used up", house.end(1), false);
-        Check.due("count(3)", house.count(3), 20);
-        Check.dueThrow("doubt(20, 0)", INDEX, () -> house.doubt(20, 0));
-        Check.due("an order is fine", Check.letter(house, "1000 x 1 sum 10"), 0);
-        Check.wrongLetter(house, "9999 x 1 sum", 12);
-        house.settle(7, false);
-        Check.due("a doubt behind one is settled", Check.letter(house, "9999 x 1 sum 10"), -22);
-        Check.due("count(3) again", house.count(3), 20);
-        for (int i = 0; i < 50; i++) {
-            house.settle(20 + i, false);
-            Check.due("doubt " + (21 + i), Check.letter(house, "9999 x 1 sum " + i), -23 - i);
-        }
-        Check.due("an old one's sum", house.doubt(60, 4), 39);
-        Check.due("an old one does not wait", house.doubt(60, 0), 0);
-    }
-
-    private static void doubtExceptions() {
-        PostHouse house = house();
-        Check.letter(house, "9999 x 1 sum 10");
-        for (int doubt : new int[] {-1, 1, Integer.MIN_VALUE, Integer.MAX_VALUE}) {
-            Check.dueThrow("doubt(" + doubt + ", 0)", INDEX, () -> house.doubt(doubt, 0));
-            Check.dueThrow("doubt(" + doubt + ", 9)", INDEX, () -> house.doubt(doubt, 9));
-            Check.dueThrow("settle(" + doubt + ", true)", INDEX, () -> house.settle(doubt, true));
-            Check.dueThrow("settle(" + doubt + ", false)", INDEX, () -> house.settle(doubt, false));
-        }
-        for (int what : new int[] {-1, 6, Integer.MIN_VALUE, Integer.MAX_VALUE}) {
-            Check.dueThrow("doubt(0, " + what + ")", java.util.NoSuchElementException.class,
-                    () -> house.doubt(0, what));
-        }
     }
 }

@@ -78,18 +78,6 @@ public final class ReadingBoundsTest {
         Check.sentence("there is no such THING, ORDER, WANT, DOUBT", ReadingBoundsTest::noSuchDoubt);
     }
 
-    private static void dueDoubt(PostHouse house, int doubt, int... due) {
-        for (int what = 0; what < due.length; what++) {
-            Check.due("doubt(" + doubt + ", " + what + ")", house.doubt(doubt, what), due[what]);
-        }
-    }
-
-    private static void dueWant(PostHouse house, int order, int want, int... due) {
-        for (int what = 0; what < due.length; what++) {
-            Check.due("want(" + order + ", " + want + ", " + what + ")", house.want(order, want, what), due[what]);
-        }
-    }
-
     /** One thing, 1000, sold on the days from 3 to 4 alone, and one, 2222, on all. */
     private static PostHouse houseOfTwoDays() {
         PostHouse house = new PostHouse();
@@ -126,7 +114,7 @@ public final class ReadingBoundsTest {
         Check.due("one less", Check.letter(house, "1001 x 9,1000 x 2 sum 90013"), -2);
         Check.due("one more", Check.letter(house, "1001 x 9,1000 x 2 sum 90015"), -3);
         Check.due("far above any sum", Check.letter(house, "1001x99" + ",1001x99".repeat(7) + "sum 999999"), -4);
-        dueDoubt(house, 2, 1, 0, 8, 8, 999999, 999999);
+        Check.dueDoubt(house, 2, 1, 0, 8, 8, 999999, 999999);
     }
 
     private static void oneLine() {
@@ -138,7 +126,7 @@ public final class ReadingBoundsTest {
         Check.due("two known lines would have to be others", Check.letter(known, "1000 x 1,1000 x 1 sum 40"), -2);
         Check.due("MENDINGS of known lines", known.doubt(0, 1), 0);
         Check.due("one known line has to be another", Check.letter(known, "1000 x 1,1000 x 2 sum 50"), 0);
-        dueWant(known, 0, 1, 1, 2, 20);
+        Check.dueWant(known, 0, 1, 1, 2, 20);
     }
 
     private static void thingSoldToday() {
@@ -151,7 +139,7 @@ public final class ReadingBoundsTest {
         Check.due("count(6)", house.count(6), 2);
         PostHouse told = Made.house(0, 10);
         Check.due("a code of a thing that is not sold is mended", Check.letter(told, "1000 x 1 sum 10"), 0);
-        dueWant(told, 0, 0, 1, 1, 10);
+        Check.dueWant(told, 0, 0, 1, 1, 10);
     }
 
     private static void oneDigit() {
@@ -196,7 +184,7 @@ public final class ReadingBoundsTest {
         Check.due("a line of a thing that is not sold", Check.letter(house, "1000 x 1,7777 x 1 sum 20"), -4);
         house.price(2, 5, 0, 999);
         Check.due("all lines are known", Check.letter(house, "1000 x 1,7777 x 1 sum 25"), 0);
-        dueWant(house, 0, 0, 1, 1, 20);
+        Check.dueWant(house, 0, 0, 1, 1, 20);
     }
 
     private static void mendedTotal() {
@@ -211,11 +199,11 @@ public final class ReadingBoundsTest {
     private static void plain() {
         PostHouse house = Made.house(10, 10);
         Check.due("plain, though another thing would do", Check.letter(house, "1000 x 1 sum 10"), 0);
-        dueWant(house, 0, 0, 0, 1, 10);
+        Check.dueWant(house, 0, 0, 0, 1, 10);
         Check.due("count(6)", house.count(6), 0);
         Check.due("plain, with many that would do", Check.letter(house, "1001 x 1,1000 x 1 sum 20"), 1);
-        dueWant(house, 1, 0, 1, 1, 10);
-        dueWant(house, 1, 1, 0, 1, 10);
+        Check.dueWant(house, 1, 0, 1, 1, 10);
+        Check.dueWant(house, 1, 1, 0, 1, 10);
         Check.due("not all lines are known", Check.letter(house, "1000 x 1,7777 x 1 sum 10"), -2);
         Check.due("TOTAL is not the sum", Check.letter(house, "1000 x 1 sum 11"), -3);
     }
@@ -223,16 +211,16 @@ public final class ReadingBoundsTest {
     private static void mended() {
         PostHouse house = Made.house(10, 20, 0);
         Check.due("the last line", Check.letter(house, "1001 x 1,1009 x 1 sum 30"), 0);
-        dueWant(house, 0, 1, 0, 1, 10);
+        Check.dueWant(house, 0, 1, 0, 1, 10);
         Check.due("the first line", Check.letter(house, "1009 x 1,1000 x 1 sum 30"), 1);
-        dueWant(house, 1, 0, 1, 1, 20);
-        dueWant(house, 1, 1, 0, 1, 10);
+        Check.dueWant(house, 1, 0, 1, 1, 20);
+        Check.dueWant(house, 1, 1, 0, 1, 10);
         Check.due("count(6)", house.count(6), 2);
         Check.due("two lines, one mending each", Check.letter(house, "1000 x 1,1000 x 1 sum 30"), -2);
-        dueDoubt(house, 0, 1, 2, 2, 2, 30, 30);
+        Check.dueDoubt(house, 0, 1, 2, 2, 2, 30, 30);
         house.price(2, 20, 0, 999);
         Check.due("one line, two mendings", Check.letter(house, "1009 x 1 sum 20"), -3);
-        dueDoubt(house, 1, 1, 2, 1, 0, 20, 20);
+        Check.dueDoubt(house, 1, 1, 2, 1, 0, 20, 20);
         Check.due("count(6) then", house.count(6), 2);
     }
 
@@ -339,11 +327,11 @@ public final class ReadingBoundsTest {
         PostHouse house = Made.house(10, 20);
         Check.letter(house, "1001 x 2,1000 x 99,1001 x 1 sum 1050");
         Check.due("WANTS", house.order(0, 1), 3);
-        dueWant(house, 0, 0, 1, 2, 20, 0, 0, 0, 0, -1, -1);
-        dueWant(house, 0, 1, 0, 99, 10, 0, 0, 0, 0, -1, -1);
-        dueWant(house, 0, 2, 1, 1, 20, 0, 0, 0, 0, -1, -1);
+        Check.dueWant(house, 0, 0, 1, 2, 20, 0, 0, 0, 0, -1, -1);
+        Check.dueWant(house, 0, 1, 0, 99, 10, 0, 0, 0, 0, -1, -1);
+        Check.dueWant(house, 0, 2, 1, 1, 20, 0, 0, 0, 0, -1, -1);
         house.price(1, 5, 0, 999);
-        dueWant(house, 0, 0, 1, 2, 20);
+        Check.dueWant(house, 0, 0, 1, 2, 20);
         Check.due("LEFT of all", house.order(0, 4), 102);
     }
 
@@ -396,13 +384,13 @@ public final class ReadingBoundsTest {
         house.price(2, 5, 0, 999);
         house.price(0, 8, 0, 999);
         Check.due("mended", house.settle(0, true), 0);
-        dueWant(house, 0, 0, 0, 1, 8);
+        Check.dueWant(house, 0, 0, 0, 1, 8);
         Check.due("as told", house.settle(1, true), 1);
-        dueWant(house, 1, 0, 2, 1, 5);
-        dueWant(house, 1, 1, 0, 1, 8);
+        Check.dueWant(house, 1, 0, 2, 1, 5);
+        Check.dueWant(house, 1, 1, 0, 1, 8);
         Check.due("as told, as there were two mendings", house.settle(2, true), 2);
-        dueWant(house, 2, 0, 0, 1, 8);
-        dueWant(house, 2, 1, 0, 1, 8);
+        Check.dueWant(house, 2, 0, 0, 1, 8);
+        Check.dueWant(house, 2, 1, 0, 1, 8);
     }
 
     private static void pricesAndRulesOfThatDay() {
@@ -414,11 +402,8 @@ public final class ReadingBoundsTest {
         Made.goToDay(house, 5);
         Check.rules(house, "post 3;free 13");
         Check.due("taken", house.settle(0, true), 0);
-        int[] due = {5, 1, 99, 84, 1, 3};
-        for (int what = 0; what < due.length; what++) {
-            Check.due("order(0, " + what + ")", house.order(0, what), due[what]);
-        }
-        dueWant(house, 0, 0, 0, 1, 12);
+        Check.dueOrder(house, 0, 5, 1, 99, 84, 1, 3);
+        Check.dueWant(house, 0, 0, 0, 1, 12);
         Check.letter(house, "1000 x 1 sum 99");
         Check.rules(house, "free 12");
         Check.due("taken without POST", house.settle(1, true), 1);
@@ -466,7 +451,7 @@ public final class ReadingBoundsTest {
         house.settle(2, true);
         int[] waits = {0, 1, 0, 1};
         for (int i = 0; i < waits.length; i++) {
-            dueDoubt(house, i, waits[i], 0, 2, 1, 50 + i, 50 + i);
+            Check.dueDoubt(house, i, waits[i], 0, 2, 1, 50 + i, 50 + i);
         }
         Check.due("the next number", Check.letter(house, "9999 x 1 sum 54"), -6);
         Check.due("its sum", house.doubt(4, 4), 54);
@@ -571,16 +556,16 @@ public final class ReadingBoundsTest {
     private static void doubtNumbers() {
         PostHouse house = Made.house(10, 20);
         Check.letter(house, "1000 x 1,9999 x 1,1001 x 1 sum 6 money 7");
-        dueDoubt(house, 0, 1, 0, 3, 2, 6, 7);
+        Check.dueDoubt(house, 0, 1, 0, 3, 2, 6, 7);
         Check.letter(house, "1009 x 1,1001 x 1 sum 30 money 9");
-        dueDoubt(house, 1, 1, 1, 2, 2, 30, 9);
+        Check.dueDoubt(house, 1, 1, 1, 2, 2, 30, 9);
         Check.letter(house, "1009 x 1 sum 31");
-        dueDoubt(house, 2, 1, 0, 1, 0, 31, 31);
+        Check.dueDoubt(house, 2, 1, 0, 1, 0, 31, 31);
         house.thing(1009, 1, 0, 1);
         house.price(2, 1, 0, 999);
-        dueDoubt(house, 2, 1, 0, 1, 0, 31, 31);
+        Check.dueDoubt(house, 2, 1, 0, 1, 0, 31, 31);
         house.settle(2, true);
-        dueDoubt(house, 2, 0, 0, 1, 0, 31, 31);
+        Check.dueDoubt(house, 2, 0, 0, 1, 0, 31, 31);
     }
 
     private static void doubtHasNothingElse() {

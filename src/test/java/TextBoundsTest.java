@@ -72,6 +72,8 @@ public final class TextBoundsTest {
         Check.sentence("a word that is none", TextBoundsTest::wordsThatAreNone);
         Check.sentence("a , ahead of a 9th LINE", TextBoundsTest::ninthLine);
         Check.sentence("any other byte", TextBoundsTest::anyOtherByte);
+        Check.sentence("the begin of the first word, digits or sign that cannot stand there",
+                TextBoundsTest::signsThatAreNone);
         Check.sentence("or the text's length, if more must come", TextBoundsTest::moreMustCome);
     }
 
@@ -212,10 +214,7 @@ public final class TextBoundsTest {
         PostHouse house = Made.house(0, 0);
         Check.due("one", Check.rules(house, "back 1"), 1);
         Check.due("five", Check.rules(house, "place 1000 by 1001;behind 2;post 3;free 4;back 5"), 5);
-        int[] due = {2, 3, 4, 5};
-        for (int what = 0; what < due.length; what++) {
-            Check.due("says(" + what + ")", house.says(what), due[what]);
-        }
+        Check.dueRules(house, 2, 3, 4, 5);
         Check.due("instead(0)", house.instead(0), 1);
         Check.wrongRules(house, "", 0);
         Check.wrongRules(house, ";", 0);
@@ -305,9 +304,7 @@ public final class TextBoundsTest {
         for (int i = 0; i < texts.length; i++) {
             Check.rules(house, texts[i]);
             due[i] = 5 + i;
-            for (int what = 0; what < due.length; what++) {
-                Check.due("says(" + what + ") behind " + texts[i], house.says(what), due[what]);
-            }
+            Check.dueRules(house, due);
             duePlaces(house, 1, -1);
         }
         Check.rules(house, "place 1001 by 1000");
@@ -492,6 +489,7 @@ public final class TextBoundsTest {
         Check.wrongRules(house, "place 1000 bz 1001", 11);
         Check.wrongRules(house, "place 1000 cy 1001", 11);
         Check.wrongRules(house, "place 1000 x 1001", 11);
+        Check.wrongRules(house, "place 1000 by by", 14);
         Check.wrongLetter(house, "1000 y 1 sum 5", 5);
         Check.wrongLetter(house, "1000 by 1 sum 5", 5);
         Check.wrongLetter(house, "1000 x 1 sun 5", 9);
@@ -536,6 +534,40 @@ public final class TextBoundsTest {
         }
     }
 
+    /** Each sign that stands nowhere, ahead of each word, digits and sign of a right text. */
+    private static void signsThatAreNone() {
+        String[] rules = {"place", "1000", "by", "1001", ";", "post", "7"};
+        String[] letter = {"1000", "x", "1", ",", "1001", "x", "1", "sum", "11", "money", "12"};
+        for (int sign = 0; sign < 256; sign++) {
+            boolean letterOrDigit = sign >= 'a' && sign <= 'z' || sign >= '0' && sign <= '9';
+            if (letterOrDigit || sign == ' ' || sign == ',' || sign == ';') {
+                continue;
+            }
+            PostHouse house = Made.house(5, 6);
+            for (int i = 0; i < rules.length; i++) {
+                int[] at = new int[1];
+                Check.wrongRules(house, withSign(rules, i, (char) sign, at), at[0]);
+            }
+            for (int i = 0; i < letter.length; i++) {
+                int[] at = new int[1];
+                Check.wrongLetter(house, withSign(letter, i, (char) sign, at), at[0]);
+            }
+        }
+    }
+
+    /** The parts with blanks between, a sign ahead of one of them; the sign's place is told in at[0]. */
+    private static String withSign(String[] parts, int place, char sign, int[] at) {
+        StringBuilder text = new StringBuilder();
+        for (int i = 0; i < parts.length; i++) {
+            if (i == place) {
+                at[0] = text.length();
+                text.append(sign);
+            }
+            text.append(parts[i]).append(' ');
+        }
+        return text.toString();
+    }
+
     private static void moreMustCome() {
         PostHouse house = Made.house(5, 6);
         String rules = "place 1000 by 1001 ; post";
@@ -567,10 +599,7 @@ public final class TextBoundsTest {
         PostHouse house = Made.house(0, 0, 0);
         Check.rules(house, "behind 1;post 2;free 3;back 4;place 1000 by 1001");
         Check.wrongRules(house, "behind 5;post 6;free 7;back 8;place 1000 by 1002;place 1001 by 1002;", 68);
-        int[] due = {1, 2, 3, 4};
-        for (int what = 0; what < due.length; what++) {
-            Check.due("says(" + what + ")", house.says(what), due[what]);
-        }
+        Check.dueRules(house, 1, 2, 3, 4);
         duePlaces(house, 1, -1, -1);
         Check.rules(house, "back 9");
         Check.due("nothing of it comes with the next text", house.says(POST), 2);
@@ -580,9 +609,7 @@ public final class TextBoundsTest {
     private static void says() {
         PostHouse house = new PostHouse();
         Check.rules(house, "back 44;free 33;post 22;behind 11");
-        for (int what = 0; what <= 3; what++) {
-            Check.due("says(" + what + ")", house.says(what), 11 * (what + 1));
-        }
+        Check.dueRules(house, 11, 22, 33, 44);
     }
 
     private static void saysNothingElse() {

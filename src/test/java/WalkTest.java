@@ -14,35 +14,10 @@ public final class WalkTest {
     }
 
     public static void main(String[] args) {
-        picks();
         onePick();
         pairs();
         anyPicks();
         Check.finish();
-    }
-
-    private static void picks() {
-        PostHouse house = new PostHouse();
-        Check.dueThrow("pick(0) without things", IndexOutOfBoundsException.class, () -> house.pick(0));
-        for (int i = 0; i < 12; i++) {
-            house.thing(i, 1, i % 8, 20);
-        }
-        Check.due("walk() without picks", house.walk(), 0);
-        for (int i = 0; i < 10; i++) {
-            Check.due("pick(" + i + ")", house.pick(i), i + 1);
-            Check.due("pick(" + i + ") again", house.pick(i), -1);
-        }
-        Check.due("an 11th", house.pick(10), -1);
-        Check.due("count(5)", house.count(5), 10);
-        for (int thing : new int[] {-1, 12, 30, Integer.MIN_VALUE, Integer.MAX_VALUE}) {
-            Check.dueThrow("pick(" + thing + ")", IndexOutOfBoundsException.class, () -> house.pick(thing));
-        }
-        Check.due("walk()", house.walk(), 2 * (42 + 21) + 6 * 2);
-        Check.due("count(5) behind walk()", house.count(5), 0);
-        Check.due("walk() again", house.walk(), 0);
-        Check.due("pick(10)", house.pick(10), 1);
-        Check.due("pick(2), of the same street and place", house.pick(2), 2);
-        Check.due("walk() of one place", house.walk(), 2 * 12 + 40);
     }
 
     private static void onePick() {
