@@ -260,7 +260,16 @@ public final class WalkForetoldBoundsTest {
         dueForetold(house, 100, 1, BOUGHT, 90 - 7 - 20);
         house.back(0, 0, 3);
         dueForetold(house, 100, 1, BOUGHT, 90 - 10 - 20);
+        house.coming(0, 2, 5);
+        dueForetold(house, 100, 1, BOUGHT, 90 - 10 - 25);
+        house.days(1);
+        dueForetold(house, 100, 1, BOUGHT, 90 - 15 - 20);
         Check.due("from a day on without SALES", house.foretold(0, 1, 100, 1, BOUGHT), 0);
+        PostHouse full = houseOfSales(10);
+        for (int i = 0; i < 60; i++) {
+            full.coming(i % 2, 1 + i, 1);
+        }
+        dueForetold(full, 100, 1, BOUGHT, 90 - 30);
     }
 
     private static void zeroAtLeast() {
